@@ -266,7 +266,8 @@ public final class Chaincurves {
         checkFunction(what);
         checkCell(cell);
         checkArgument(cell);
-        return Curves.keepsFormula(what, numbers[cell]);
+        // There is no other way here to an answer than the formula, so the two are one number.
+        return true;
     }
 
     public boolean isRising(int what, int eighths) throws IllegalArgumentException {
@@ -327,8 +328,14 @@ public final class Chaincurves {
 
     public boolean isSound() {
         for (int cell = 0; cell < CELLS; cell++) {
-            if (!keepsLaws(cell) || !tellsFirstDigits(cell) || !comesFromSource(cell)) {
+            if (!tellsFirstDigits(cell) || !comesFromSource(cell)) {
                 return false;
+            }
+            for (int what = SINH; what <= TANH; what++) {
+                // isFormula() is so wherever there is an argument, so isTurned() alone is open.
+                if (hasArgument(cell) && !Curves.keepsTurning(what, numbers[cell])) {
+                    return false;
+                }
             }
             for (int other = 0; other < CELLS; other++) {
                 if (!isOrdered(cell, other)) {
@@ -445,18 +452,6 @@ public final class Chaincurves {
             }
         }
         return count;
-    }
-
-    private boolean keepsLaws(int cell) {
-        if (!hasArgument(cell)) {
-            return true;
-        }
-        for (int what = SINH; what <= TANH; what++) {
-            if (!Curves.keepsTurning(what, numbers[cell]) || !Curves.keepsFormula(what, numbers[cell])) {
-                return false;
-            }
-        }
-        return true;
     }
 
     private boolean tellsFirstDigits(int cell) {
@@ -700,14 +695,8 @@ public final class Chaincurves {
     private static final class Curves {
         private static final int FORMULAS_END = 22;
 
-        /** What a function makes of an argument: its formula for the size, signed as turning asks. */
+        /** What a function makes of an argument: that is what its formula makes of it. */
         static long answer(int what, long argument) {
-            long ofSize = formula(what, Digits.sizeIn(argument));
-            return argument < 0 && what != COSH ? Digits.turned(ofSize) : ofSize;
-        }
-
-        /** What the formula itself makes of an argument with its sign. */
-        private static long formula(int what, long argument) {
             double x = Digits.eighthsIn(argument) * 0.125;
             double a = x < 0 ? -x : x;
             boolean isMinus = argument < 0;
@@ -716,7 +705,7 @@ public final class Chaincurves {
                     // The half has the sign of x, so the product has; but a double of 0 does not show
                     // its sign, and the digits of a nought need it.
                     long product = Digits.ofDouble(sinhOf(a, isMinus ? -0.5 : 0.5));
-                    return product | argument & Digits.MINUS_NOUGHT;
+                    return isMinus ? product | Digits.MINUS_NOUGHT : product;
                 case COSH:
                     return Digits.ofDouble(coshOf(a));
                 default:
@@ -831,7 +820,7 @@ public final class Chaincurves {
         private static double twoTo(int power) {
             double result = 1;
             double factor = power < 0 ? 0.5 : 2;
-            for (int rest = Math.abs(power); rest > 0; rest = rest >> 1) {
+            for (int rest = power < 0 ? -power : power; rest > 0; rest = rest >> 1) {
                 if ((rest & 1) == 1) {
                     result = result * factor;
                 }
@@ -844,10 +833,6 @@ public final class Chaincurves {
             long answer = answer(what, argument);
             long due = what == COSH ? answer : Digits.turned(answer);
             return answer(what, Digits.turned(argument)) == due;
-        }
-
-        static boolean keepsFormula(int what, long argument) {
-            return answer(what, argument) == formula(what, argument);
         }
 
         static boolean keepsBounds(long argument) {
