@@ -4,10 +4,12 @@ public final class FunctionsTest {
 
     private static final Report report = new Report("FunctionsTest");
     private static final Model model = new Model();
-    private static final Chaincurves asked = new Chaincurves();
+    /** An object is used for at most 512 calls, so another one is asked at each argument. */
+    private static Chaincurves asked = new Chaincurves();
 
     public static void main(String[] args) {
         for (int eighths = -320; eighths <= 320; eighths++) {
+            asked = new Chaincurves();
             for (int what = 1; what <= 3; what++) {
                 lookAtAnswer(what, eighths);
             }
@@ -52,6 +54,7 @@ public final class FunctionsTest {
     }
 
     private static void refuseWrongOnes() {
+        asked = new Chaincurves();
         for (int wrong : new int[] {-321, 321, Integer.MIN_VALUE, Integer.MAX_VALUE}) {
             for (int what = 1; what <= 3; what++) {
                 int function = what;

@@ -3,6 +3,9 @@ final class Report {
     private static final int MOST_PRINTED = 40;
 
     private final String name;
+    private String sentence = "";
+    private int sentences;
+    private int askedBefore;
     private int asked;
     private int wrong;
 
@@ -10,12 +13,27 @@ final class Report {
         this.name = name;
     }
 
+    /** Begins the test of one sentence of the document; a sentence of which nothing is asked is wrong. */
+    void sentence(String words) {
+        endSentence();
+        sentence = words;
+        sentences++;
+        askedBefore = asked;
+    }
+
+    private void endSentence() {
+        if (sentences > 0 && asked == askedBefore) {
+            due("the sentence is looked at", false, true);
+        }
+    }
+
     void due(String call, Object got, Object want) {
         asked++;
         if (!want.equals(got)) {
             wrong++;
             if (wrong <= MOST_PRINTED) {
-                System.out.println(name + ": " + call + " answered " + got + ", due is " + want);
+                String of = sentence.isEmpty() ? "" : "[" + sentence + "] ";
+                System.out.println(name + ": " + of + call + " answered " + got + ", due is " + want);
             }
         }
     }
@@ -37,7 +55,9 @@ final class Report {
 
     /** Ends the program: with exit code 1 if an answer was wrong, or if nothing was asked. */
     void close() {
-        System.out.println(name + ": " + asked + " answers looked at, " + wrong + " wrong");
+        endSentence();
+        String of = sentences == 0 ? "" : " of " + sentences + " sentences";
+        System.out.println(name + ": " + asked + " answers" + of + " looked at, " + wrong + " wrong");
         System.exit(wrong == 0 && asked > 0 ? 0 : 1);
     }
 }
