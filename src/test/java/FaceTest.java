@@ -33,11 +33,11 @@ public final class FaceTest {
             methods = Stream.concat(methods, Stream.of(inside.getDeclaredMethods()));
         }
         for (Method method : methods.filter(m -> !m.isSynthetic()).toList()) {
-            boolean isOfFace = Modifier.isPublic(method.getModifiers());
-            report.due(method + " has a public one's name", open.contains(method.getName()), isOfFace);
+            boolean isPrivate = Modifier.isPrivate(method.getModifiers());
+            report.due(method + " is private, with a public one's name", isPrivate && open.contains(method.getName()), false);
             boolean isInside = method.getDeclaringClass() != Chaincurves.class;
-            report.due(method + " is in its place", isOfFace || isInside
-                    || Modifier.isPrivate(method.getModifiers()), true);
+            report.due(method + " is in its place", isInside || isPrivate
+                    || Modifier.isPublic(method.getModifiers()), true);
         }
         report.close();
     }

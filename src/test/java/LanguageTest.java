@@ -7,12 +7,16 @@ import java.util.regex.Pattern;
 /** Those rules of LANGUAGE.md that can be read off the program's lines. */
 public final class LanguageTest {
     private static final String[] FORBIDDEN = {
-        "\\bimport\\b", "\\bpackage\\b", "->", "::", "\\bsynchronized\\b", "\\bassert\\b", "\\bfinally\\b", "\\bcatch\\b",
-        "\\b(Double|Float|StrictMath|System|Thread|Runtime|Object)\\b", "\\bMath\\.(?!(abs|min|max)\\b)",
-        "\\b(Long|Integer)\\.", "\\bhashCode\\b", "\\bgetMessage\\b", "\\b(protected|volatile|transient|native)\\b",
-        "\"\\s*\\+|\\+\\s*\""};
-    private static final Pattern THROWN = Pattern.compile("throw\\b(?! new "
-            + "(IndexOutOfBoundsException|IllegalArgumentException|IllegalStateException)\\(\"[^\"]*\"\\);)");
+        "\\bimport (?!java\\.util\\.(ArrayList|List|Iterator|Arrays|NoSuchElementException);)", "\\bpackage\\b",
+        "^(?!\\s*(case\\b.*|default\\s*)->).*->", "::", "\\bsynchronized\\b", "\\bassert\\b", "\\bfinally\\b",
+        "\\b(Double|Float|StrictMath|Thread|Runtime|Object)\\b", "\\bSystem\\.(?!arraycopy\\b)",
+        "\\bMath\\.(?!(abs|min|max|floorDiv|floorMod|multiplyHigh)\\b)", "\\b(Long|Integer)\\.(parse|toString|valueOf|decode)",
+        "\\bhashCode\\b", "\\bgetMessage\\b", "\\b(protected|volatile|transient|native)\\b", "\"\\s*\\+|\\+\\s*\""};
+    private static final String EXCEPTIONS = "(IllegalStateException|IllegalArgumentException|IndexOutOfBoundsException"
+            + "|ArithmeticException|UnsupportedOperationException|NoSuchElementException|RuntimeException)";
+    private static final Pattern THROWN = Pattern.compile("throw\\b(?! new " + EXCEPTIONS + "\\((\"[^\"]*\")?\\);)");
+    private static final Pattern CAUGHT = Pattern.compile("\\bcatch\\b(?! \\((final )?" + EXCEPTIONS + "( \\| "
+            + EXCEPTIONS + ")* \\w+\\))");
     private static final Pattern STATIC_FIELD = Pattern.compile("^\\s+(private )?static (?!final )[^(]*[;=]");
     private static final Pattern METHOD = Pattern.compile("^( {4,8})(\\w+ )*\\w+\\([^;]*$|^( {4,8})(\\w+ )+\\w+\\(.*\\{$");
     private static final int MOST_LINES = 60;
@@ -39,6 +43,7 @@ public final class LanguageTest {
         }
         report.due("'" + line.strip() + "' throws what it may not",
                 THROWN.matcher(line).find() && !line.contains("throws"), false);
+        report.due("'" + line.strip() + "' catches what it may not", CAUGHT.matcher(line).find(), false);
         report.due("'" + line.strip() + "' is static and not final", STATIC_FIELD.matcher(line).find(), false);
         report.due("'" + line.strip() + "' has signs above 127", line.chars().anyMatch(c -> c > 127), false);
     }
