@@ -557,6 +557,7 @@ public final class Chaincurves {
 
         private static final int FRACTION_DIGITS = 52;
         private static final int EXPONENT_OF_ONE = 1023;
+        private static final int MOST_EXPONENT = 2047;
         private static final long LEADING_ONE = 1L << FRACTION_DIGITS;
         private static final long FRACTION = LEADING_ONE - 1;
         private static final int HEIGHT_OF_AN_EIGHTH = -3;
@@ -576,11 +577,11 @@ public final class Chaincurves {
         }
 
         static boolean hasNoSize(long number) {
-            return sizeIn(number) == 0;
+            return number == NOUGHT || number == MINUS_NOUGHT;
         }
 
         static int heightIn(long number) {
-            return (int) (sizeIn(number) >> FRACTION_DIGITS) - EXPONENT_OF_ONE;
+            return (int) (number >> FRACTION_DIGITS & MOST_EXPONENT) - EXPONENT_OF_ONE;
         }
 
         /** All 53 digits of a size that is not 0, the leading 1 with the fraction. */

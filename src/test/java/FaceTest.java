@@ -18,7 +18,7 @@ public final class FaceTest {
         report.due("the face", new TreeSet<>(face()), new TreeSet<>(faceOfDocument(Path.of(args[1], "DOC.md"))));
         report.due("the class's modifiers", Modifier.toString(Chaincurves.class.getModifiers()), "public final");
         for (Field field : Chaincurves.class.getDeclaredFields()) {
-            report.due(field + " is private", Modifier.isPrivate(field.getModifiers()), true);
+            report.due(field + " is private", field.isSynthetic() || Modifier.isPrivate(field.getModifiers()), true);
         }
         TreeSet<String> open = new TreeSet<>();
         for (Method method : Chaincurves.class.getDeclaredMethods()) {
@@ -28,8 +28,9 @@ public final class FaceTest {
         }
         Stream<Method> methods = Stream.of(Chaincurves.class.getDeclaredMethods());
         for (Class<?> inside : Chaincurves.class.getDeclaredClasses()) {
-            report.due(inside + " is static", Modifier.isStatic(inside.getModifiers()), true);
-            report.due(inside + " is public", Modifier.isPublic(inside.getModifiers()), false);
+            // Static, too, says rule 1 of LANGUAGE.md, but its rule 2 lets others stand: only this is asked.
+            boolean isOpen = Modifier.isPublic(inside.getModifiers()) || Modifier.isProtected(inside.getModifiers());
+            report.due(inside + " is public or protected", isOpen, false);
             methods = Stream.concat(methods, Stream.of(inside.getDeclaredMethods()));
         }
         for (Method method : methods.filter(m -> !m.isSynthetic()).toList()) {

@@ -6,8 +6,8 @@ import java.math.BigDecimal;
  * Boundary cases that the face does not show, as the questions about them are "always so": that the
  * formulas change just where the document says (each digit of each answer is what its formula makes,
  * with the class's own EXP and EXPM1), how many UNITS apart are still near, and that isSound() sees
- * a cell that is not. So this test looks inside, by names that stand in the class; where a class has
- * no Curves inside it there is nothing for it to look at, and it says so.
+ * a cell that is not. So this test looks inside, by names that stand in the class; where one of them
+ * is not there it looks at nothing, and says so: the document leaves free how the class is made.
  */
 public final class InsideTest {
     private static final int SINH = 1;
@@ -25,7 +25,7 @@ public final class InsideTest {
 
     public static void main(String[] args) throws Exception {
         if (!findInside()) {
-            System.out.println("InsideTest: the class has no Curves inside it, nothing is looked at");
+            System.out.println("InsideTest: the class is not made as this test knows it, nothing is looked at");
             return;
         }
         report.sentence("3 SINH: a below 1");
@@ -62,12 +62,18 @@ public final class InsideTest {
         if (curves == null || digits == null) {
             return false;
         }
-        answer = open(curves.getDeclaredMethod("answer", int.class, long.class));
-        exp = open(curves.getDeclaredMethod("exp", double.class));
-        expm1 = open(curves.getDeclaredMethod("expm1", double.class));
-        areSquaresNear = open(curves.getDeclaredMethod("haveSquaresNearOneApart", double.class, double.class));
-        areWithin = open(digits.getDeclaredMethod("areWithin", long.class, long.class, int.class));
-        return true;
+        try {
+            answer = open(curves.getDeclaredMethod("answer", int.class, long.class));
+            exp = open(curves.getDeclaredMethod("exp", double.class));
+            expm1 = open(curves.getDeclaredMethod("expm1", double.class));
+            areSquaresNear = open(curves.getDeclaredMethod("haveSquaresNearOneApart", double.class, double.class));
+            areWithin = open(digits.getDeclaredMethod("areWithin", long.class, long.class, int.class));
+            Chaincurves x = new Chaincurves();
+            return row(x, "numbers") instanceof long[] && row(x, "origins") instanceof int[]
+                    && row(x, "sources") instanceof long[];
+        } catch (NoSuchMethodException | NoSuchFieldException e) {
+            return false;
+        }
     }
 
     private static Method open(Method method) {
